@@ -159,6 +159,8 @@ public final class ReadLongTest {
         }
         Check.dueRead(2, NO_LONGS + parts + "NETS\n" + nets + "END\n", 40);
         Check.dueFault(2, NO_LONGS + parts + "^x");
+        Check.dueFault(2, NO_LONGS + parts + "^NEXT b c\n");
+        Check.dueFault(2, NO_LONGS + "NETS\n" + nets + "^EN 1\n");
         Check.dueFault(2, NO_LONGS + "NETS\n" + nets + "^x 1\n");
         Check.dueFault(2, NO_LONGS + parts + "NETS\na 1\n n7 1\n ^y 1\n");
         StringBuilder pins = new StringBuilder();

@@ -8,6 +8,7 @@ public final class ReadPlainTest {
         pins();
         limits();
         lists();
+        listsFilledAnew();
         Check.end("ReadPlainTest");
     }
 
@@ -171,5 +172,29 @@ public final class ReadPlainTest {
         Check.due("compare(1) with D", x.compare(1), 1);
         Check.due("read() again of the same text", x.read(), 1);
         Check.due("parts of a list filled anew", x.unknown(1), NetlistTexts.NONE);
+    }
+
+    /** Lists are filled anew: nothing of what a fault, or the list that went, left there may show. */
+    private static void listsFilledAnew() {
+        NetlistTexts x = Check.with(0, "part longer_name value foot\nnet long_net 7 longer_name.1\n?");
+        x.read();
+        Check.readNext(x, "net n 1 u.1\n");
+        Check.due("the list after a fault", Check.written(x, 0), "net n 1 u.1\n");
+        Check.due("name of its part", Check.partText(x, 0, 0), "u");
+        Check.due("value of its part", Check.partText(x, 0, 1), "");
+        Check.due("footprint of its part", Check.partText(x, 0, 2), "");
+        NetlistTexts y = new NetlistTexts(0);
+        for (int i = 0; i < 6; i++) {
+            Check.readNext(y, "part p v f\nnet Z~~ 1 p.1 p.2\nnet Z~! 1 p.3\nnet Y 1 p.4\n");
+        }
+        for (int i = 0; i < 6; i++) {
+            Check.readNext(y, "net Z 1 u.1\nnet Z! 1 u.2\n");
+            Check.due("value of an unknown part", y.part(0, 127), 0);
+            Check.due("pins of net 0", Check.pins(y, 0), "u/1");
+            Check.dueOutOfBounds("a third net", () -> y.cls(2));
+        }
+        Check.readNext(y, "net A 1 u.1 u.2\n");
+        Check.due("compare with a list filled anew", y.compare(0), 1);
+        Check.due("Z is less than Z!", y.renamed(0, 1), 0);
     }
 }
