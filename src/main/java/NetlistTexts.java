@@ -248,7 +248,7 @@ public final class NetlistTexts {
         }
 
         void add(int row, int character) {
-            if (has(row) && sizes[row] < MOST_CHARACTERS) {
+            if (row >= 0 && row < sizes.length && sizes[row] < MOST_CHARACTERS) {
                 characters[row * MOST_CHARACTERS + sizes[row]] = (char) character;
                 sizes[row]++;
             }
