@@ -6,15 +6,34 @@ final class Check {
 
     private static int asked = 0;
     private static int wrong = 0;
+    private static String sentence = "";
+    private static int askedAtSentence = 0;
 
     private Check() {
+    }
+
+    /** What is asked from here on tests this sentence of the document; the one before must have asked something. */
+    static void sentence(String words) {
+        endSentence();
+        sentence = words;
+        askedAtSentence = asked;
+    }
+
+    private static void endSentence() {
+        if (!sentence.isEmpty() && asked == askedAtSentence) {
+            tellWrong("nothing was asked");
+        }
+    }
+
+    private static void tellWrong(String what) {
+        wrong++;
+        System.out.println(sentence.isEmpty() ? what : "\"" + sentence + "\": " + what);
     }
 
     static void due(String call, long got, long want) {
         asked++;
         if (got != want) {
-            wrong++;
-            System.out.println(call + " answered " + got + ", due is " + want);
+            tellWrong(call + " answered " + got + ", due is " + want);
         }
     }
 
@@ -25,8 +44,7 @@ final class Check {
     static void due(String call, String got, String want) {
         asked++;
         if (!got.equals(want)) {
-            wrong++;
-            System.out.println(call + " answered <" + got + ">, due is <" + want + ">");
+            tellWrong(call + " answered <" + got + ">, due is <" + want + ">");
         }
     }
 
@@ -39,8 +57,7 @@ final class Check {
             got = e.getClass().getSimpleName();
         }
         if (!got.equals(want.getSimpleName())) {
-            wrong++;
-            System.out.println(call + " threw " + got + ", due is " + want.getSimpleName());
+            tellWrong(call + " threw " + got + ", due is " + want.getSimpleName());
         }
     }
 
@@ -50,6 +67,7 @@ final class Check {
 
     /** Ends the test: exit code 1 when an answer was wrong, or none was asked for. */
     static void end(String name) {
+        endSentence();
         System.out.println(name + ": " + asked + " answers asked for, " + wrong + " wrong");
         if (wrong != 0 || asked == 0) {
             System.exit(1);
@@ -131,6 +149,29 @@ final class Check {
             all.append('/').append(x.pin(net, k, 1));
         }
         return all.toString();
+    }
+
+    /** All that calls tell of the list at hand without a change: its writing, notes, unknown parts, renamed pairs. */
+    static String seen(NetlistTexts x) {
+        StringBuilder all = new StringBuilder(written(x, 1));
+        for (int k = 0; k < 50 && has(x, k, true); k++) {
+            all.append("note ").append(x.note(k, 0)).append(' ').append(x.note(k, 1)).append(' ').append(x.note(k, 2));
+        }
+        for (int k = 0; x.unknown(k) != NetlistTexts.NONE; k++) {
+            all.append("unknown ").append(x.unknown(k)).append(' ').append(partText(x, x.unknown(k), 0));
+        }
+        for (int k = 0; k < 40 && has(x, k, false); k++) {
+            all.append("renamed ").append(x.renamed(k, 0)).append(' ').append(x.renamed(k, 1));
+        }
+        return all.toString();
+    }
+
+    private static boolean has(NetlistTexts x, int k, boolean note) {
+        try {
+            return (note ? x.note(k, 0) : x.renamed(k, 0)) >= 0;
+        } catch (IndexOutOfBoundsException e) {
+            return false;
+        }
     }
 
     static String repeat(String text, int times) {
