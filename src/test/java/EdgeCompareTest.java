@@ -16,6 +16,7 @@ public final class EdgeCompareTest {
         leastOfSecond();
         againAndAgain();
         fullLists();
+        comparedBefore();
         foundLatest();
         byNumbers();
         noSuchPair();
@@ -110,6 +111,10 @@ public final class EdgeCompareTest {
         duePairs("2 ahead of 1", two("net x 1 p.1 p.2 p.3\n", "net a 1 p.1 p.9\nnet b 1 p.2 p.3 p.8\n"), 0, "1-0");
         duePairs("2 ahead of 1 in the other list", two("net x 1 p.1 p.9\nnet y 1 p.2 p.3 p.8\n", "net a 1 p.1 p.2 p.3\n"), 0,
                 "0-1");
+        duePairs("2 ahead of 1 with a lesser name", two("net x 1 p.1 p.2 p.3\n", "net b 1 p.2 p.3 p.8\nnet a 1 p.1 p.9\n"), 0,
+                "0-0");
+        duePairs("2 ahead of 1 with a lesser name in the other list", two("net y 1 p.2 p.3 p.8\nnet x 1 p.1 p.9\n",
+                "net a 1 p.1 p.2 p.3\n"), 0, "0-0");
         duePairs("what is left", two("net x 1 p.1 p.2 p.3\nnet y 1 p.4 p.9\n", "net a 1 p.1 p.4\nnet b 1 p.2 p.3\n"), 0,
                 "0-1 1-0");
     }
@@ -118,6 +123,11 @@ public final class EdgeCompareTest {
         Check.sentence("MATCHED: one at least");
         duePairs("none in common", two("net x 1 p.1 p.2\n", "net a 1 p.3 q.1\n"), 0, "");
         duePairs("one in common", two("net x 1 p.1 p.2\n", "net a 1 p.3 p.2\n"), 0, "0-0");
+        String forty = "";
+        for (int i = 0; i < 40; i++) {
+            forty += "part p" + i + " ~ ~~\n";
+        }
+        duePairs("none in common with 40 parts", two(forty + "net x 1 p1.1\n", forty + "net a 1 p2.1\n"), 0, "");
         duePairs("none left", two("net x 1 p.1 p.2\nnet y 1 q.1\n", "net a 1 p.1\nnet b 1 p.2\n"), 0, "0-0");
     }
 
@@ -175,6 +185,37 @@ public final class EdgeCompareTest {
         Check.readNext(x, part.text());
         duePairs("40 pairs with one pin in common", x, 0, want.toString());
         duePairs("itself", x, 2, "");
+    }
+
+    /** Neither the pins in common that another compare() counted, nor longer names of lists that went, may show. */
+    private static void comparedBefore() {
+        Check.sentence("8: Compares the list at hand with another one (whatever was compared before)");
+        NetlistTexts x = two("net x 1 p.1 p.2\nnet y 1 p.3\n", "net x 1 q.1\nnet z 1 p.1 q.2\n");
+        Check.readNext(x, "net a 1 p.1 p.2\nnet b 1 q.2\n");
+        duePairs("compare(0)", x, 0, "0-0");
+        duePairs("compare(1)", x, 1, "0-1");
+        duePairs("compare(2)", x, 2, "");
+        duePairs("compare(0) again", x, 0, "0-0");
+        Check.readNext(x, "net c 1 r.1\nnet d 1 r.2\n");
+        for (int other = 0; other < 4; other++) {
+            duePairs("nothing in common, compare(" + other + ")", x, other, "");
+        }
+        dueLeastName("net Z! 1 u.1\nnet Z 1 u.2\n", "0-1");
+        dueLeastName("net Z 1 u.1\nnet Z! 1 u.2\n", "0-0");
+    }
+
+    private static void dueLeastName(String others, String want) {
+        NetlistTexts x = new NetlistTexts(0);
+        for (int i = 0; i < 6; i++) {
+            Check.readNext(x, "net Z~~ 1 p.1 p.2\nnet Z~! 1 p.3\n");
+        }
+        for (int i = 0; i < 6; i++) {
+            Check.readNext(x, others);
+        }
+        Check.readNext(x, "net A 1 u.1 u.2\n");
+        for (int other = 0; other < 3; other++) {
+            duePairs("Z is less than Z!, compare(" + other + ")", x, other, want);
+        }
     }
 
     private static void foundLatest() {

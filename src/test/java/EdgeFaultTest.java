@@ -241,6 +241,16 @@ public final class EdgeFaultTest {
         Check.dueFault(2, eleven + "NETS\n^#11 1\n");
         Check.dueFault(2, eleven + "NETS\nn 1\n ^#11 1\n");
         Check.dueFault(2, eleven + "NETS\nn 1\n ^#11");
+        // The long texts of the text before are there no more.
+        NetlistTexts x = Check.reading(2, eleven + "#10 #10 #10\nNETS\nEND\n");
+        x.clear();
+        Check.put(x, none + "#00 b c\nNETS\nEND\n");
+        Check.due("#00 of the text before", x.read(), -1 - none.length());
+        x.clear();
+        Check.put(x, "LONG\n#00 987654321\nPARTS\n#00 b #01\n");
+        Check.due("#01 of the text before", x.read(), -32);
+        Check.readNext(x, "LONG\n#00 987654321\nPARTS\n#00 b c\nNETS\nEND\n");
+        Check.due("#00 of this text", Check.partText(x, 0, 0), "987654321");
     }
 
     private static void shortLongText() {

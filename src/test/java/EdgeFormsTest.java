@@ -298,6 +298,12 @@ public final class EdgeFormsTest {
         Check.dueFault(2, "LONG\nPARTS\nNETS\nEND ^\n");
         Check.dueFault(2, "LONG^S\n");
         Check.dueFault(2, "LONG\nPARTS^ \n");
+        for (String wrong : new String[] {"xETS", "NxTS", "NExS", "NETx", "nets", "NET", "NETSS", "END"}) {
+            Check.dueFault(2, "LONG\nPARTS\n" + wrong + "^\nEND\n");
+        }
+        for (String wrong : new String[] {"xND", "ExD", "ENx", "end", "EN", "ENDD", "NETS"}) {
+            Check.dueFault(2, "LONG\nPARTS\nNETS\n" + wrong + "^\n");
+        }
         // Names may be the words of the sections: only a whole LINE is one.
         Check.dueRead(2, "LONG\nPARTS\nNETS b c\nEND b c\nNETS\nEND 1\n NETS 1\n END 1\nNETS 1\nEND\n", 2);
     }

@@ -9,6 +9,7 @@ public final class EdgeReadTest {
             numberedAsRead(form);
             firstOneGoes(form);
             fullAndFault(form);
+            fullAndFaultAgain(form);
             manyReads(form);
         }
         inItsForm();
@@ -146,6 +147,28 @@ public final class EdgeReadTest {
             Check.due("compare(3) with itself", x.compare(3), 0);
         }
         dueNumbers(x, form, "B", "0110");
+    }
+
+    /** The rows of the list that went are those that the next text is read to, be it with a fault. */
+    private static void fullAndFaultAgain(int form) {
+        Check.sentence("3: (the lists stay), when the first one has gone");
+        NetlistTexts x = new NetlistTexts(form);
+        for (int lists = 0; lists < 9; lists++) {
+            Check.readNext(x, named(form, lists % 2 == 0 ? "A" : "B"));
+            for (String wrong : new String[] {named(form, "Q") + "?", "?", named(form, "A") + "?", named(form, "B") + "?"}) {
+                x.clear();
+                Check.put(x, wrong);
+                Check.due("read() with a fault", x.read() < 0, true);
+                dueInTurn(x, Math.min(lists + 1, 4));
+            }
+            Check.due("the list at hand", Check.netName(x, 0), lists % 2 == 0 ? "A" : "B");
+        }
+    }
+
+    private static void dueInTurn(NetlistTexts x, int lists) {
+        for (int other = 0; other < lists; other++) {
+            Check.due("of " + lists + " lists in turn, compare(" + other + ")", x.compare(other), (lists - 1 - other) % 2);
+        }
     }
 
     private static void manyReads(int form) {

@@ -258,6 +258,7 @@ public final class EdgeTermsTest {
             Check.readNext(x, new FormText(form).net("n", "0").pin("u", "2").text());
             Check.due("the list", Check.written(x, 0), "net n 0 u.2\n");
             Check.due("value of its part", Check.partText(x, 0, 1), "");
+            Check.due("footprint of its part", Check.partText(x, 0, 2), "");
             Check.readNext(x, new FormText(form).part("abc", MOST, MOST).net("netname", "9").pin("abc", "1").text());
             Check.due("the next list", Check.written(x, 0), "part abc " + MOST + " " + MOST + "\nnet netname 9 abc.1\n");
         }

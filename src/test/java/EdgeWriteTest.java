@@ -19,6 +19,7 @@ public final class EdgeWriteTest {
         unknownOnes();
         blanks();
         escapes();
+        numbers();
         moreThanEight();
         asTheyStandFirst();
         eachOnce();
@@ -170,6 +171,16 @@ public final class EdgeWriteTest {
         }
     }
 
+    private static void numbers() {
+        Check.sentence("WRITTEN: CLASS and NUMBERS: one to three digits");
+        for (int number : new int[] {1, 2, 9, 10, 11, 19, 20, 90, 99, 100, 101, 109, 110, 199, 200, 909, 990, 998, 999}) {
+            NetlistTexts x = new FormText(0).net("n", "" + number % 10).pin("u", "" + number).reading();
+            Check.due("form 0", Check.written(x, 0), "net n " + number % 10 + " u." + number + "\n");
+            Check.due("form 1", Check.written(x, 1), "(netlist\n(net \"n\" " + number % 10 + " (pin \"u\" " + number + ")))\n");
+            Check.due("form 2", Check.written(x, 2), "LONG\nPARTS\nNETS\nn " + number % 10 + "\n u " + number + "\nEND\n");
+        }
+    }
+
     private static void moreThanEight() {
         Check.sentence("WRITTEN: in form 2 texts of more than 8 characters by their numbers");
         for (int form = 0; form <= 2; form++) {
@@ -240,8 +251,13 @@ public final class EdgeWriteTest {
             Check.due(count + " long texts read back", Check.written(back, 1), Check.written(x, 1));
         }
         NetlistTexts others = longTexts(101);
+        Check.due("101 long texts", others.write(2, 0), 'L');
         Check.readNext(others, "net a 1\n");
         Check.due("the next list", Check.written(others, 2), "LONG\nPARTS\nNETS\na 1\nEND\n");
+        Check.readNext(others, "net longtext01 1\n");
+        Check.due("the next one", Check.written(others, 2), "LONG\n#00 longtext01\nPARTS\nNETS\n#00 1\nEND\n");
+        Check.readNext(others, "net longtext02 1\n");
+        Check.due("one more", Check.written(others, 2), "LONG\n#00 longtext02\nPARTS\nNETS\n#00 1\nEND\n");
     }
 
     /** As many characters as a list can be written in: more than a text may have. */
